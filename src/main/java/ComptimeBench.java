@@ -219,6 +219,7 @@ public final class ComptimeBench {
     private static final class Value {
         static final int TYPE = 1;
         static final int ERROR = 2;
+        static final int NONE = 3;
         static final int FAULT = 5;
         static final int STAND_IN = 6;
         static final int LEAST_NUMBER = 8;
@@ -281,14 +282,14 @@ public final class ComptimeBench {
 
         static boolean isKnown(long value) {
             int what = (int) (value & 255);
-            return what >= LEAST_NUMBER || what >= TYPE && what <= NOTHING;
+            return what >= LEAST_NUMBER || what >= TYPE && what <= NONE;
         }
 
         static char letter(long value) {
             switch (what(value)) {
                 case TYPE: return 't';
                 case ERROR: return 'e';
-                case (int) NOTHING: return '-';
+                case NONE: return '-';
                 case FREE_NUMBER: return 'n';
                 case FREE_NUMBER + FLOAT: return 'f';
                 default: return 'w';
@@ -651,14 +652,15 @@ public final class ComptimeBench {
         /** The part of a node by its place among the parts that are worked out, or -1 if there is none. */
         int part(int node, int place) {
             int shape = shape(kind[node]);
-            int left = place;
-            if ((shape & 1) != 0 && left-- == 0) {
+            int ofB = shape & 1;
+            int ofC = ofB + (shape >> 1 & 1);
+            if ((shape & 1) != 0 && place == 0) {
                 return a[node];
             }
-            if ((shape & 2) != 0 && left-- == 0) {
+            if ((shape & 2) != 0 && place == ofB) {
                 return b[node];
             }
-            return (shape & 4) != 0 && left == 0 ? c[node] : -1;
+            return (shape & 4) != 0 && place == ofC ? c[node] : -1;
         }
 
         void declare(int declaration, int form, int parameters, int known, int body) {
@@ -1261,7 +1263,6 @@ public final class ComptimeBench {
             return 'v';
         }
 
-        @Override
         long spend() {
             if (spent >= MOST_NODES) {
                 return Value.fault('l');
@@ -1270,13 +1271,11 @@ public final class ComptimeBench {
             return Value.NOTHING;
         }
 
-        @Override
         long factAt(int at) {
             Made made = frames.made[frames.count];
             return made == null ? Value.UNSEEN : made.facts[at];
         }
 
-        @Override
         long need(int declaration, int form, long x, long y) {
             Made callee = null;
             if (frames.made[frames.count] != null) {
@@ -1290,7 +1289,6 @@ public final class ComptimeBench {
             return opened;
         }
 
-        @Override
         long putOut(long value) {
             if (puts < MOST_OUTPUTS) {
                 put[puts] = value;
@@ -1299,12 +1297,10 @@ public final class ComptimeBench {
             return Value.NOTHING;
         }
 
-        @Override
         int nodesByNow() {
             return spent;
         }
 
-        @Override
         void left(long value) {
         }
     }
@@ -1329,7 +1325,6 @@ public final class ComptimeBench {
             nodes = 0;
         }
 
-        @Override
         long spend() {
             if (nodes >= MOST_NODES) {
                 return Value.fault('q');
@@ -1339,12 +1334,10 @@ public final class ComptimeBench {
             return Value.NOTHING;
         }
 
-        @Override
         long factAt(int at) {
             return Value.UNSEEN;
         }
 
-        @Override
         long need(int declaration, int form, long x, long y) {
             Thing thing = store.findThing(declaration + form, x, y);
             if (thing != null) {
@@ -1379,17 +1372,14 @@ public final class ComptimeBench {
             frames.lookedAt[frame] |= lookedAt;
         }
 
-        @Override
         long putOut(long value) {
             return Value.fault('u');
         }
 
-        @Override
         int nodesByNow() {
             return nodes;
         }
 
-        @Override
         void left(long value) {
             int frame = frames.count;
             int levels = frames.levelsWithin[frame] + 1;
@@ -1505,7 +1495,7 @@ public final class ComptimeBench {
         private void reachAll(Made made) {
             int from = reachedCount;
             reach(made);
-            for (int i = from; i < reachedCount; i++) {
+            for (int i = from; i < reachedCount && i < MOST_MADE; i++) {
                 for (int j = 0; j < reached[i].leadsCount; j++) {
                     reach(reached[i].leads[j]);
                 }
