@@ -253,7 +253,12 @@ public final class PromiseRuns {
         refused("no such part is told first", ILLEGAL, () -> x.node('+', deep, 77, 0));
         due("b has no meaning for r", x.node('r', 0, deep, deep), 10);
         due("c without arguments is not deep", x.node('c', 0, -1, -1), 11);
-        for (int i = 12; i < 220; i++) {
+        int call = 11;
+        for (int depth = 2; depth <= 10; depth++) {
+            due("a call without arguments has depth 1", x.node('r', call, 0, 0), call + 1);
+            call++;
+        }
+        for (int i = 21; i < 220; i++) {
             due("node", x.node('n', i, 0, 0), i);
         }
         refused("node 220", STATE, () -> x.node('n', 0, 0, 0));
@@ -283,6 +288,11 @@ public final class PromiseRuns {
         due("told anew as a constant", k.x.constant(0, two), 1);
         due("and is no function now", k.x.build(0), 'd');
         due("the other one was kept", k.x.constants(), 1);
+        k.x.function(9, 0, 0, k.d(0));
+        due("build", k.x.build(9), '-');
+        due("constants", k.x.constants(), 2);
+        due("the first declaration is dropped like others", k.x.constant(0, two), 2);
+        due("constants", k.x.constants(), 1);
     }
 
     static void functions() {
