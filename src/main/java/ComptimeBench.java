@@ -938,17 +938,19 @@ public final class ComptimeBench {
         final Made[] made = new Made[MOST + 1];
         /** What a build works out in this call, or null for 'K'. */
         final Thing[] thing = new Thing[MOST + 1];
-        final int[] nodesBefore = new int[MOST + 1];
+        /** The nodes of the call by now, with those of all that it needed. */
+        final int[] nodes = new int[MOST + 1];
         final int[] levelsWithin = new int[MOST + 1];
         final int[] lookedAt = new int[MOST + 1];
 
         void clear() {
             count = 0;
+            nodes[0] = 0;
             levelsWithin[0] = 0;
             lookedAt[0] = 0;
         }
 
-        void open(long x, long y, int nodesBase, int putOffs, int nodes) {
+        void open(long x, long y, int nodesBase, int putOffs) {
             count++;
             base[count] = nodesBase;
             putOffBase[count] = putOffs;
@@ -957,7 +959,7 @@ public final class ComptimeBench {
             leaving[count] = false;
             made[count] = null;
             thing[count] = null;
-            nodesBefore[count] = nodes;
+            nodes[count] = 0;
             levelsWithin[count] = 0;
             lookedAt[count] = 0;
             for (int i = count * VARIABLES; i < (count + 1) * VARIABLES; i++) {
@@ -971,6 +973,7 @@ public final class ComptimeBench {
         /** Far above what the most nodes of a run can need. */
         static final int MOST_TURNS = 1000000;
         static final int STACK = Frames.MOST * Program.MOST_DEPTH;
+        static final int FEW_PUT_OFF = 64;
 
         final Program program;
         final Frames frames = new Frames();
@@ -981,14 +984,13 @@ public final class ComptimeBench {
         /** The node that is to be worked out next, or -1 if a value is to be handed on. */
         int next;
         /** The nodes that are put off, times 2, plus 1 for those that wait for an error. */
-        final int[] putOff;
+        int[] putOff = new int[FEW_PUT_OFF];
         int putOffs;
         /** How many nodes were worked out. */
         int spent;
 
-        Machine(Program program, int mostNodes) {
+        Machine(Program program) {
             this.program = program;
-            this.putOff = new int[mostNodes];
         }
 
         /** Counts a node that is to be worked out; a fault if it would be one too many. */
@@ -1002,10 +1004,8 @@ public final class ComptimeBench {
 
         abstract long putOut(long value);
 
-        /** How many nodes what is worked out counts by now. */
-        abstract int nodesByNow();
-
-        abstract void left(long value);
+        /** Hands on the value with which a call was left, or finds a fault where it was called. */
+        abstract long left(int frame, long value);
 
         final void clear() {
             frames.clear();
@@ -1017,7 +1017,7 @@ public final class ComptimeBench {
             if (frames.count >= Frames.MOST) {
                 return Value.fault('l');
             }
-            frames.open(x, y, height, putOffs, nodesByNow());
+            frames.open(x, y, height, putOffs);
             next = body;
             return Value.NOTHING;
         }
@@ -1086,7 +1086,7 @@ public final class ComptimeBench {
 
         private long defer(int at) {
             if (putOffs >= putOff.length) {
-                return Value.fault('l');
+                putOff = Arrays.copyOf(putOff, 2 * putOff.length);
             }
             putOff[putOffs++] = program.a[at] * 2 + (program.kind[at] == 'E' ? 1 : 0);
             return Value.NOTHING;
@@ -1218,9 +1218,8 @@ public final class ComptimeBench {
                     return value;
                 }
             }
-            left(frames.end[frame]);
             frames.count--;
-            return frames.end[frame];
+            return left(frame, frames.end[frame]);
         }
     }
 
@@ -1238,7 +1237,7 @@ public final class ComptimeBench {
         int valued;
 
         Runner(Program program, Store store) {
-            super(program, MOST_NODES);
+            super(program);
             this.store = store;
         }
 
@@ -1297,11 +1296,8 @@ public final class ComptimeBench {
             return Value.NOTHING;
         }
 
-        int nodesByNow() {
-            return spent;
-        }
-
-        void left(long value) {
+        long left(int frame, long value) {
+            return value;
         }
     }
 
@@ -1310,26 +1306,23 @@ public final class ComptimeBench {
         static final int MOST_NODES = 500;
 
         final Store store;
-        /** The nodes of the outermost thing by now, with those of kept things that it needs. */
-        int nodes;
         int begun;
 
         Worker(Program program, Store store) {
-            super(program, MOST_NODES);
+            super(program);
             this.store = store;
         }
 
         /** Makes ready for a 'K' or a constant that a made function has. */
         void start() {
             clear();
-            nodes = 0;
         }
 
         long spend() {
-            if (nodes >= MOST_NODES) {
+            if (frames.nodes[frames.count] >= MOST_NODES) {
                 return Value.fault('q');
             }
-            nodes++;
+            frames.nodes[frames.count]++;
             spent++;
             return Value.NOTHING;
         }
@@ -1356,42 +1349,35 @@ public final class ComptimeBench {
             if (thing.working) {
                 return Value.fault('r');
             }
-            if (nodes + thing.nodes > MOST_NODES) {
-                return Value.fault('q');
-            }
             if (frames.count + thing.levels > Frames.MOST) {
                 return Value.fault('l');
             }
-            nodes += thing.nodes;
-            note(frames.count, thing.levels, thing.lookedAt);
-            return thing.value;
+            return handOn(thing.value, frames.count, thing.nodes, thing.levels, thing.lookedAt);
         }
 
-        private void note(int frame, int levels, int lookedAt) {
+        /** Counts what was needed for what needed it, where too many nodes are the fault. */
+        private long handOn(long value, int frame, int nodes, int levels, int lookedAt) {
+            frames.nodes[frame] += nodes;
             frames.levelsWithin[frame] = Math.max(frames.levelsWithin[frame], levels);
             frames.lookedAt[frame] |= lookedAt;
+            return frames.nodes[frame] > MOST_NODES ? Value.fault('q') : value;
         }
 
         long putOut(long value) {
             return Value.fault('u');
         }
 
-        int nodesByNow() {
-            return nodes;
-        }
-
-        void left(long value) {
-            int frame = frames.count;
+        long left(int frame, long value) {
             int levels = frames.levelsWithin[frame] + 1;
             Thing thing = frames.thing[frame];
             if (thing != null) {
                 thing.value = value;
-                thing.nodes = nodes - frames.nodesBefore[frame];
+                thing.nodes = frames.nodes[frame];
                 thing.levels = levels;
                 thing.lookedAt = frames.lookedAt[frame];
                 thing.working = false;
             }
-            note(frame - 1, levels, frames.lookedAt[frame]);
+            return handOn(value, frame - 1, frames.nodes[frame], levels, frames.lookedAt[frame]);
         }
     }
 
@@ -1643,10 +1629,6 @@ public final class ComptimeBench {
                 fault = 'd';
                 return;
             }
-            if (turn > 0 && program.isKnownParameter(declaration, turn - 1) && !Value.isKnown(argument(at, turn - 1))) {
-                fault = 'u';
-                return;
-            }
             for (int place = turn; place < program.parameters[declaration]; place++) {
                 int part = program.part(at, place);
                 if (part >= 0) {
@@ -1656,8 +1638,22 @@ public final class ComptimeBench {
                 }
             }
             stage[height - 1] = 3;
+            if (lacksArgument(at, declaration)) {
+                fault = 'u';
+                return;
+            }
             lead(declaration, program.madeFor(declaration, 0, argument(at, 0)),
                     program.madeFor(declaration, 1, argument(at, 1)));
+        }
+
+        /** Whether an argument that must be known is not. */
+        private boolean lacksArgument(int at, int declaration) {
+            for (int place = 0; place < program.parameters[declaration]; place++) {
+                if (program.isKnownParameter(declaration, place) && !Value.isKnown(argument(at, place))) {
+                    return true;
+                }
+            }
+            return false;
         }
 
         private long argument(int at, int place) {

@@ -151,6 +151,13 @@ public final class OracleRuns {
         int nodes;
         int levels;
         final Set<Integer> looked = new HashSet<>();
+
+        void add(int more) {
+            nodes += more;
+            if (nodes > 500) {
+                throw new Fault('q');
+            }
+        }
     }
 
     static final class Oracle {
@@ -410,7 +417,9 @@ public final class OracleRuns {
             for (int i = 0; i < d.parameters; i++) {
                 int number = i == 0 ? n.b : n.c;
                 parts[i] = number < 0 ? null : look(made, number);
-                Val value = number < 0 ? Val.NOTHING : parts[i].value;
+            }
+            for (int i = 0; i < d.parameters; i++) {
+                Val value = parts[i] == null ? Val.NOTHING : parts[i].value;
                 boolean mustBe = (d.known & 1 << i) != 0;
                 if (mustBe && value == null) {
                     throw new Fault('u');
@@ -453,17 +462,12 @@ public final class OracleRuns {
             if (kept.working) {
                 throw new Fault('r');
             }
-            if (levels.get(0).nodes + kept.nodes > 500) {
-                throw new Fault('q');
-            }
             if (levels.size() - 1 + kept.levels > 20) {
                 throw new Fault('l');
             }
-            for (Level level : levels) {
-                level.nodes += kept.nodes;
-            }
             outer.levels = Math.max(outer.levels, kept.levels);
             outer.looked.addAll(kept.looked);
+            outer.add(kept.nodes);
             return kept.value;
         }
 
@@ -487,6 +491,7 @@ public final class OracleRuns {
                 kept.working = false;
                 outer.looked.addAll(kept.looked);
             }
+            outer.add(level.nodes);
             return value;
         }
 
@@ -540,13 +545,8 @@ public final class OracleRuns {
 
         void count() {
             if (building) {
-                if (levels.get(0).nodes >= 500) {
-                    throw new Fault('q');
-                }
+                levels.get(levels.size() - 1).add(1);
                 worked++;
-                for (Level level : levels) {
-                    level.nodes++;
-                }
             } else {
                 if (steps >= 2000) {
                     throw new Fault('l');
