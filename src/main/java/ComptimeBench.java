@@ -1002,6 +1002,9 @@ public final class ComptimeBench {
         /** Hands on the value of a constant or of a call, or begins to work it out. */
         abstract long need(int declaration, int form, long x, long y);
 
+        /** Tells that a call looks at a declaration, which it may not come to need, as an argument may leave it. */
+        abstract void look(int declaration);
+
         abstract long putOut(long value);
 
         /** Hands on the value with which a call was left, or finds a fault where it was called. */
@@ -1185,6 +1188,7 @@ public final class ComptimeBench {
             }
             if (stage[top] == 0) {
                 stage[top] = 1;
+                look(declaration);
                 if (program.parameters[declaration] > 0 && program.b[at] >= 0) {
                     next = program.b[at];
                     return value;
@@ -1296,6 +1300,9 @@ public final class ComptimeBench {
             return Value.NOTHING;
         }
 
+        void look(int declaration) {
+        }
+
         long left(int frame, long value) {
             return value;
         }
@@ -1361,6 +1368,10 @@ public final class ComptimeBench {
             frames.levelsWithin[frame] = Math.max(frames.levelsWithin[frame], levels);
             frames.lookedAt[frame] |= lookedAt;
             return frames.nodes[frame] > MOST_NODES ? Value.fault('q') : value;
+        }
+
+        void look(int declaration) {
+            frames.lookedAt[frames.count] |= 1 << declaration;
         }
 
         long putOut(long value) {

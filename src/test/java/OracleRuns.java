@@ -628,6 +628,9 @@ public final class OracleRuns {
             if (d == null || !d.function) {
                 throw new Fault('d');
             }
+            if (building) {
+                levels.get(levels.size() - 1).looked.add(rest.node.a);
+            }
             List<Val> row = new ArrayList<>();
             for (int i = 0; i < d.parameters; i++) {
                 Rest part = part(rest, i);
@@ -1040,6 +1043,41 @@ public final class OracleRuns {
             tell("b", history);
         }
 
+        /** Constants of constants and calls, near to the most nodes and levels; any of them may be kept early. */
+        void chains() {
+            int one = node('k', node('n', 1, 0, 0), node('t', 0, node('n', 8, 0, 0), 0), 0);
+            int p = node('p', 0, 0, 0);
+            int less = node('-', p, node('n', 1, 0, 0), 0);
+            int first = node('c', 4, less, -1);
+            int second = node('c', 4, pick(2) == 0 ? less : node('-', less, node('n', 1, 0, 0), 0), -1);
+            function(4, 1, 0, node('i', node('<', p, node('n', 2, 0, 0), 0), one,
+                    wrapped(node('P', first, pick(3) == 0 ? one : second, 0), pick(3))));
+            for (int d = 5; d < 10; d++) {
+                int leaf = pick(4) == 0 ? node('c', 4, node('n', pick(12), 0, 0), -1)
+                        : d == 5 || pick(5) == 0 ? one : node('d', 5 + pick(d - 5), 0, 0);
+                constant(d, node('P', wrapped(leaf, pick(7)), pick(3) == 0 ? wrapped(leaf, pick(4)) : one, 0));
+            }
+            for (int i = pick(8); i >= 0; i--) {
+                int d = 5 + pick(5);
+                function(pick(3), 0, 0, pick(3) == 0 ? wrapped(node('d', d, 0, 0), pick(4)) : node('d', d, 0, 0));
+                build();
+                if (pick(2) == 0) {
+                    afterBuild();
+                }
+                if (pick(4) == 0) {
+                    constant(d, pick(2) == 0 ? one : wrapped(one, pick(7)));
+                }
+            }
+        }
+
+        int wrapped(int part, int times) {
+            int all = part;
+            for (int i = 0; i < times; i++) {
+                all = pick(2) == 0 ? node('K', all, 0, 0) : node('P', all, pick(3) == 0 ? part : all, 0);
+            }
+            return all;
+        }
+
         int typeNode() {
             int which = pick(8);
             if (which == 0) {
@@ -1163,6 +1201,36 @@ public final class OracleRuns {
                 return oracle.build(d);
             });
             tell("b", history);
+            if (d >= 0 && d < 10 && right && history.size() < 500 && pick(4) == 0) {
+                fromNothing(d);
+            }
+        }
+
+        /** What is known worked out early or late gives the same: the answer of a new bench with the same declarations. */
+        void fromNothing(int declaration) {
+            ComptimeBench other = new ComptimeBench();
+            for (Node n : oracle.nodes) {
+                other.node(n.kind, n.a, n.b, n.c);
+            }
+            for (int i = 0; i < 10; i++) {
+                Declaration d = oracle.declarations[i];
+                if (d != null && d.function) {
+                    other.function(i, d.parameters, d.known, d.body);
+                } else if (d != null) {
+                    other.constant(i, d.body);
+                }
+            }
+            same("build(" + declaration + ")", () -> bench.build(declaration), () -> other.build(declaration));
+            if (oracle.build(declaration) == '-') {
+                int x = literal();
+                int y = pick(20) - 5;
+                same("run(" + x + ", " + y + ")", () -> bench.run(x, y), () -> oracle.run(x, y));
+                other.run(x, y);
+                same("steps()", bench::steps, other::steps);
+                same("result()", bench::result, other::result);
+                same("outputs()", bench::outputs, other::outputs);
+                same("isWhole()", () -> bench.isWhole() ? 1 : 0, () -> 1);
+            }
         }
 
         void afterBuild() {
@@ -1260,7 +1328,8 @@ public final class OracleRuns {
                 }
             }
             while (right && history.size() < 512) {
-                switch (pick(17)) {
+                switch (pick(18)) {
+                    case 17: chains(); break;
                     case 16: arithmetic(); break;
                     case 0, 1, 2, 3: randomNode(); break;
                     case 4, 5, 6: edit(); break;

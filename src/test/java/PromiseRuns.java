@@ -396,6 +396,16 @@ public final class PromiseRuns {
         told("d of a constant that is called", k.built(k.call(7, -1, -1), 0, 0), "!d");
         told("d of a function as a constant", k.built(k.d(6), 0, 0), "!d");
         told("u of an argument", k.built(k.call(6, k.p(0), -1), 0, 0), "!u");
+        told("arguments ahead of u", k.built(k.call(6, k.two('+', k.p(0), k.d(6)), -1), 0, 0), "!d");
+        k.x.function(5, 2, 1, one);
+        told("all arguments ahead of u", k.built(k.call(5, k.p(0), k.two('/', one, k.n(0))), 0, 0), "!z");
+        due("found in function 0", k.x.trace(), 1);
+        told("no fault in them", k.built(k.call(5, k.p(0), k.p(1)), 0, 0), "!u");
+        k.x.function(5, 2, 2, one);
+        told("u of the second one", k.built(k.call(5, k.p(0), k.p(1)), 0, 0), "!u");
+        told("a function as an argument is made ahead of u", k.built(k.call(5, one, k.call(6, one, -1)), 0, 0), "!u");
+        due("functions 0 and 6", k.x.looked(), 2);
+        due("function 6 is kept", k.x.made(), 1);
         told("a missing argument is known", k.built(k.call(6, -1, -1), 0, 0), "-0");
         told("u of K", k.built(k.one('K', k.p(0)), 0, 0), "!u");
         told("u of what puts out", k.built(k.one('K', k.one('o', one)), 0, 0), "!u");
@@ -465,6 +475,9 @@ public final class PromiseRuns {
         }
         keptLevels();
         keptFunctions();
+        neededNodes();
+        nodesOfCalls();
+        levelsAheadOfNodes();
         for (int rounds = 70; rounds <= 71; rounds++) {
             Desk k = new Desk();
             int v = k.v(0);
@@ -490,6 +503,104 @@ public final class PromiseRuns {
             due("a constant " + times + " times", k.x.build(0), all <= 500 ? '-' : 'q');
             due("is kept", k.x.constants(), 1);
             due("worked", k.x.worked(), all <= 500 ? nodes + 2 * times - 1 : nodes + 11 + (times - 6));
+        }
+    }
+
+    /** A node with so many nodes, one for each place: 4 doubled and 1 added for each time. */
+    static int doubled(Desk k, int times) {
+        int all = k.two('k', k.n(1), k.x.node('t', 0, k.n(8), 0));
+        for (int i = 0; i < times; i++) {
+            all = k.two('P', all, all);
+        }
+        return all;
+    }
+
+    /** A node that is worked out by so many rounds, with 7 nodes for each and 9 more. */
+    static int counted(Desk k, int rounds) {
+        int v = k.v(0);
+        int loop = k.two('L', k.two('<', v, k.n(rounds)), k.two('s', 0, k.two('+', v, k.n(1))));
+        return k.then(k.two('s', 0, k.n(0)), loop, v);
+    }
+
+    static void neededNodes() {
+        for (int early = 0; early < 2; early++) {
+            // constant 5 has 319 nodes, and 6 has 321 of its own
+            Desk k = new Desk();
+            k.x.constant(5, doubled(k, 6));
+            k.x.constant(6, k.two('P', doubled(k, 6), k.d(5)));
+            k.x.function(0, 0, 0, k.d(5));
+            k.x.function(1, 0, 0, k.d(6));
+            if (early == 1) {
+                due("what is needed", k.x.build(0), '-');
+                due("worked", k.x.worked(), 319);
+            }
+            due("too many with what is needed", k.x.build(1), 'q');
+            due("found in what needs it", k.x.trace(), 2);
+            due("constant 6", k.x.traceAt(0), 16);
+            due("what is needed is kept", k.x.constants(), 1);
+            due("looked", k.x.looked(), 3 - early);
+            due("worked", k.x.worked(), 640 - 319 * early);
+            // a fault in what is needed is found there, and comes first
+            k.x.constant(5, k.then(counted(k, 40), k.two('/', k.n(1), k.n(0))));
+            due("its own fault", k.x.build(1), 'z');
+            due("found in what is needed", k.x.traceAt(0), 15);
+            due("nothing is kept", k.x.constants(), 0);
+            // 'K' is counted by itself, too
+            k.x.constant(6, k.then(counted(k, 30), k.one('K', k.then(counted(k, 40), k.d(7)))));
+            k.x.constant(7, k.n(3));
+            due("too many with 'K'", k.x.build(1), 'q');
+            due("found behind it", k.x.trace(), 2);
+            due("what it needs is kept", k.x.constants(), 1);
+            due("worked", k.x.worked(), 513);
+        }
+    }
+
+    /** Calls that are kept count each time, so n has the nodes of n - 1 twice, and 11 more. */
+    static void nodesOfCalls() {
+        Desk k = new Desk();
+        int p = k.p(0);
+        int one = k.n(1);
+        int again = k.call(1, k.two('-', p, one), -1);
+        k.x.function(1, 1, 0, k.three('i', p, k.two('+', again, again), one));
+        k.x.function(0, 0, 0, k.one('K', k.call(1, k.n(9), -1)));
+        due("build", k.x.build(0), 'q');
+        due("from 0 to 5", k.x.calls(), 6);
+        due("found in the call of 6", k.x.trace(), 5);
+        due("looked", k.x.looked(), 11);
+        k.x.function(0, 0, 0, k.one('K', k.call(1, k.n(5), -1)));
+        due("build", k.x.build(0), '-');
+        due("looked", k.x.looked(), 1);
+    }
+
+    static int inKs(Desk k, int part, int times) {
+        int all = part;
+        for (int i = 0; i < times; i++) {
+            all = k.one('K', all);
+        }
+        return all;
+    }
+
+    static void levelsAheadOfNodes() {
+        for (int early = 0; early < 2; early++) {
+            Desk k = new Desk();
+            k.x.constant(5, doubled(k, 6));
+            k.x.constant(6, inKs(k, k.d(5), 9));
+            k.x.constant(7, inKs(k, k.d(6), 8));
+            int many = k.two('P', doubled(k, 5), doubled(k, 4));
+            // 7 has 338 nodes and goes 20 deep, 6 has 329 and goes 11 deep; each is needed behind 240 nodes
+            k.x.constant(8, k.two('P', many, k.d(7)));
+            k.x.constant(9, k.two('P', many, k.d(6)));
+            k.x.function(0, 0, 0, k.d(7));
+            k.x.function(1, 0, 0, k.d(8));
+            k.x.function(2, 0, 0, k.d(9));
+            if (early == 1) {
+                due("20 levels", k.x.build(0), '-');
+            }
+            due("too many nodes", k.x.build(2), 'q');
+            due("found in 9", k.x.traceAt(0), 19);
+            due("too many of both", k.x.build(1), 'l');
+            due("found where the level is, or where a kept one is needed", k.x.traceAt(0), early == 1 ? 18 : 17);
+            due("kept", k.x.constants(), early == 1 ? 3 : 2);
         }
     }
 
@@ -941,6 +1052,23 @@ public final class PromiseRuns {
         k.x.function(0, 0, 0, k.then(off(k, 'D', 1), k.two('/', k.v(0), one)));
         due("a fault ends all at once", k.x.plain(0, 0, 0), 't');
         due("nothing is done", k.x.outputs(), 0);
+        manyPutOff();
+    }
+
+    static void manyPutOff() {
+        Desk k = new Desk();
+        int v = k.v(0);
+        int off = k.one('D', k.n(1));
+        int three = k.then(off, off, off);
+        int more = k.then(three, three, k.two('s', 0, k.two('+', v, k.n(1))));
+        int start = k.two('s', 0, k.two('k', k.n(0), k.t(-32)));
+        k.x.function(0, 1, 0, k.then(start, k.two('L', k.two('<', v, k.p(0)), more), v));
+        due("plain", k.x.plain(0, 70, 0), 'v');
+        due("420 parts are put off", k.x.steps(), 12 + 70 * 25);
+        k.x.constant(5, k.then(k.two('s', 0, k.n(0)), k.two('L', k.two('<', v, k.n(18)), more), v));
+        k.x.function(0, 0, 0, k.d(5));
+        due("build", k.x.build(0), '-');
+        due("108 parts are put off", k.x.worked(), 9 + 18 * 25);
     }
 
     static int off(Desk k, char kind, int number) {
@@ -1169,5 +1297,21 @@ public final class PromiseRuns {
         due("looked", k.x.looked(), 3);
         due("run", k.x.run(0, 0), 'v');
         due("result", k.x.result(), 4);
+        argumentThatLeaves();
+    }
+
+    /** A call whose argument leaves ahead of it has looked at the function, which tells how many arguments there are. */
+    static void argumentThatLeaves() {
+        Desk k = new Desk();
+        k.x.function(1, 1, 0, k.n(7));
+        k.x.constant(5, k.call(1, k.one('r', k.n(3)), -1));
+        k.x.function(0, 0, 0, k.d(5));
+        due("build", k.x.build(0), '-');
+        due("left by the argument", k.x.numberOf(5), 3);
+        due("no call", k.x.calls(), 0);
+        due("an edit of 1 drops 0 and the constant", k.x.function(1, 0, 0, k.n(8)), 2);
+        due("build", k.x.build(0), '-');
+        due("called without arguments", k.x.numberOf(5), 8);
+        due("isWhole", k.x.isWhole() ? 1 : 0, 1);
     }
 }
