@@ -974,6 +974,8 @@ public final class ComptimeBench {
         static final int MOST_TURNS = 1000000;
         static final int STACK = Frames.MOST * Program.MOST_DEPTH;
         static final int FEW_PUT_OFF = 64;
+        /** Far above what can be put off at once: in a build 500 nodes in each of 20 calls, in a run 2000 nodes. */
+        static final int MOST_PUT_OFF = 1 << 15;
 
         final Program program;
         final Frames frames = new Frames();
@@ -1088,6 +1090,9 @@ public final class ComptimeBench {
         }
 
         private long defer(int at) {
+            if (putOffs >= MOST_PUT_OFF) {
+                return Value.fault('l');
+            }
             if (putOffs >= putOff.length) {
                 putOff = Arrays.copyOf(putOff, 2 * putOff.length);
             }
@@ -1340,19 +1345,15 @@ public final class ComptimeBench {
 
         long need(int declaration, int form, long x, long y) {
             Thing thing = store.findThing(declaration + form, x, y);
-            if (thing != null) {
-                return useAgain(thing);
+            if (thing == null) {
+                long opened = open(x, y, program.body[declaration]);
+                if (!Value.isFault(opened)) {
+                    begun++;
+                    frames.thing[frames.count] = store.addThing(declaration + form, x, y);
+                    frames.lookedAt[frames.count] = 1 << declaration;
+                }
+                return opened;
             }
-            long opened = open(x, y, program.body[declaration]);
-            if (!Value.isFault(opened)) {
-                begun++;
-                frames.thing[frames.count] = store.addThing(declaration + form, x, y);
-                frames.lookedAt[frames.count] = 1 << declaration;
-            }
-            return opened;
-        }
-
-        private long useAgain(Thing thing) {
             if (thing.working) {
                 return Value.fault('r');
             }
