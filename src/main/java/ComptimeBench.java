@@ -400,7 +400,7 @@ public final class ComptimeBench {
         static final int NOT_A_NUMBER = 0x7fc00000;
         static final int LEAST_EXPONENT = -149;
         static final int MOST_EXPONENT = 104;
-        static final long NO_WHOLE = Long.MIN_VALUE;
+        static final long NO_WHOLE = 1L << 63;
 
         static long operate(int kind, int x, int y) {
             boolean ordered = !isNotANumber(x) && !isNotANumber(y);
