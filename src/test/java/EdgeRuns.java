@@ -460,6 +460,8 @@ public final class EdgeRuns {
             boolean back = most < 1;
             told("'P' of " + bits, k.kept("P w" + (back ? least : most) + ":" + bits + " " + one), "w" + (back ? most : least));
             told("'Q' of " + bits, k.kept("Q w" + (back ? least : most) + ":" + bits + " " + one), "w" + (back ? least : most));
+            told("'P' within " + bits, k.kept("P w0:" + bits + " " + one), back ? "w-1" : "w1");
+            told("'Q' within " + bits, k.kept("Q " + one + " w0:" + bits), back ? "w-1" : "w1");
             if (bits < 0) {
                 told("'P' the other way", k.kept("P w" + least + ":" + bits + " w-1:" + bits), "w" + most);
                 told("'Q' the other way", k.kept("Q w" + least + ":" + bits + " w-1:" + bits), "w" + least);
@@ -563,6 +565,15 @@ public final class EdgeRuns {
         }
         for (char kind : "ic".toCharArray()) {
             deepest(kind, 'c');
+        }
+        ComptimeBench x = new ComptimeBench();
+        for (int i = 0; i < 10; i++) {
+            x.node(i == 0 ? 'n' : 'r', Math.max(0, i - 1), 0, 0);
+        }
+        String all = "nepvdFyzxKTrDEots+-*/%<=PQkC;L";
+        for (int i = 0; i < all.length(); i++) {
+            int b = i < all.indexOf('t') ? 9 : 0;
+            due("deep numbers that " + all.charAt(i) + " does not have", x.node(all.charAt(i), 0, b, 9), 10 + i);
         }
     }
 
@@ -708,6 +719,13 @@ public final class EdgeRuns {
                 }
             }
         }
+        for (String[] row : new String[][] {{"c1 _ p0", "2"}, {"c1 p0 _", "2"}, {"c1 p0 p0", "3"}, {"c1 _ _", "1"}, {"c1 + p0 p0 _", "4"},
+            {"c1 _ + p0 p0", "4"}, {"c1 n1 p0", "2"}, {"c1 p0 n1", "2"}}) {
+            Desk k = new Desk();
+            k.function(1, 2, 0, "n1");
+            due(row[0], k.ends(1, row[0]), '-');
+            due(row[0] + " leaves", k.x.nodesLeft(), Integer.parseInt(row[1]));
+        }
         says("a part is no such node, where -1 is told for the arguments of a call that are not there");
         ComptimeBench x = new ComptimeBench();
         x.node('n', 0, 0, 0);
@@ -746,6 +764,21 @@ public final class EdgeRuns {
     }
 
     static void kindsOfNodes() {
+        for (char kind : "nepvdFyzxKTrDEo+-*/%<=PQkC;Lts".toCharArray()) {
+            // a division by 0 stands where the kind has no number
+            ComptimeBench with = new ComptimeBench();
+            int bad = with.node('/', with.node('n', 1, 0, 0), with.node('n', 0, 0, 0), 0);
+            int part = with.node(kind == 'x' ? 'k' : kind == 'z' ? 'F' : 'n', 0, with.node('F', 0, 0, 0), 0);
+            int eight = with.node('n', 8, 0, 0);
+            int a = "nepvdts".indexOf(kind) >= 0 ? 0 : kind == 'F' ? bad : part;
+            int b = "nepvdFyzxKTrDEo".indexOf(kind) >= 0 ? bad : kind == 'k' ? 3 : eight;
+            int body = with.node(kind, a, b, bad);
+            with.constant(0, part);
+            with.function(1, 1, 0, body);
+            char end = "/%".indexOf(kind) >= 0 || "PQ".indexOf(kind) < 0 ? '-' : 't';
+            due("build with numbers that " + kind + " does not have", with.build(1), end);
+            due("plain with them", with.plain(1, 0, 0), end == '-' ? 'v' : 't');
+        }
         says("there is no such kind");
         ComptimeBench x = new ComptimeBench();
         x.node('n', 0, 0, 0);
@@ -1032,6 +1065,27 @@ public final class EdgeRuns {
         says("Of floats, '+', '-', '*', '/' and '%' are done as Java does them.");
         String[] texts = {"f0", "* f0 f-1", "f1", "f-1", "f3", "f-7", "f16777215", "f1099511627776", "/ f1 f3", "/ f-1 f0", "/ f1 f0",
             "/ f0 f0", "/ f7 f1099511627776"};
+        // ends of floats: the greatest one, those without a leading bit, halves between two
+        comes("- * f16777215 " + power(104) + " * f16777215 " + power(104), "f0");
+        comes("* f16777215 " + power(104), "f" + Float.floatToIntBits(Float.MAX_VALUE));
+        comes("* f16777216 " + power(104), "f2139095040");
+        comes("* f-16777216 " + power(104), "f-8388608");
+        comes("+ * f16777215 " + power(104) + " " + power(102), "f" + Float.floatToIntBits(Float.MAX_VALUE));
+        comes("+ * f16777215 " + power(104) + " " + power(103), "f2139095040");
+        comes("/ / f1 " + power(100) + " " + power(47), "f4");
+        comes("/ / f1 " + power(100) + " " + power(49), "f1");
+        comes("/ / f1 " + power(100) + " " + power(50), "f0");
+        comes("/ / f-1 " + power(100) + " " + power(50), "f-2147483648");
+        comes("/ / f3 " + power(100) + " " + power(50), "f2");
+        comes("/ / f8388608 " + power(100) + " " + power(49), "f8388608");
+        comes("/ / f8388607 " + power(100) + " " + power(49), "f8388607");
+        comes("- / / f8388608 " + power(100) + " " + power(49) + " / / f1 " + power(100) + " " + power(49), "f8388607");
+        comes("+ f16777216 f1", "f" + Float.floatToIntBits(16777216f));
+        comes("+ f16777218 f1", "f" + Float.floatToIntBits(16777220f));
+        comes("+ f16777216 f3", "f" + Float.floatToIntBits(16777220f));
+        comes("* f16777215 f3", "f" + Float.floatToIntBits(16777215f * 3f));
+        comes("/ f1 f10", "f" + Float.floatToIntBits(1f / 10f));
+        comes("% f16777215 / f1 f3", "f" + Float.floatToIntBits(16777215f % (1f / 3f)));
         float[] floats = {0f, -0f, 1f, -1f, 3f, -7f, 16777215f, 1099511627776f, 1f / 3f, Float.NEGATIVE_INFINITY,
             Float.POSITIVE_INFINITY, Float.NaN, 7f / 1099511627776f};
         for (int i = 0; i < texts.length; i++) {
@@ -1049,6 +1103,11 @@ public final class EdgeRuns {
                 }
             }
         }
+    }
+
+    /** The float 2 to this power, from 30 to 120, by squares. */
+    static String power(int of) {
+        return of <= 30 ? "f" + (1L << of) : "* " + power(of / 2) + " " + power(of - of / 2);
     }
 
     static void comparisons() {
@@ -1276,7 +1335,11 @@ public final class EdgeRuns {
         told("'K' has the parameters", k.plain("c1 n9 n2", 0, 0), "n7");
         told("'K' has the parameters", k.plain("K K - p0 p1", 9, 2), "w7");
         told("'K' within a call in 'K'", k.built("K c1 n9 n2", 0, 0), "n7");
-        puts("; D o n1 n2", "1", "n2");
+        k.function(8, 0, 0, "; D o n1 ; E o n2 ; o n3 n4");
+        told("a call does what it put off itself", k.plain("; D o n6 ; E o n7 ; c8 _ _ ; o n8 e9", 0, 0), "e9");
+        told("and nothing of its caller", k.outputs(), "3 1 8 7 6");
+        told("built", k.built("; D o n6 ; E o n7 ; c8 _ _ ; o n8 e9", 0, 0), "e9");
+        told("likewise", k.outputs(), "3 1 8 7 6");
         told("what is put off in 'K' is done as 'K' is left", k.plain("; K D o n1 o n2", 0, 0), "-0");
         told("ahead of what follows", k.outputs(), "1 2");
         k.constant(7, "; D o n1 n4");
@@ -1356,6 +1419,16 @@ public final class EdgeRuns {
         k.constant(5, "d5");
         told("a constant for ever", k.plain("d5", 0, 0), "l");
         due("steps", k.x.steps(), 20);
+        // as deep in nodes as may be, too
+        k.function(1, 0, 0, times(9, "T") + "c1 _ _");
+        due("10 nodes within one another in each call", k.x.plain(1, 0, 0), 'l');
+        due("steps", k.x.steps(), 200);
+        due("build", k.x.build(1), '-');
+        due("10 nodes within one another in each call", k.x.run(0, 0), 'l');
+        due("steps", k.x.steps(), 200);
+        k.function(1, 1, 0, times(6, "+ n0") + "i p0 c1 - p0 n1 _ p0");
+        due("20 calls", k.x.plain(1, 19, 0), 'v');
+        due("21 calls", k.x.plain(1, 20, 0), 'l');
         // calls behind one another are not within one another
         k.function(1, 0, 0, "n1");
         told("30 calls", k.plain("; s0 n0 ; L < v0 n30 s0 + v0 c1 _ _ v0", 0, 0), "n30");
@@ -1402,6 +1475,29 @@ public final class EdgeRuns {
         told("'C' does not catch it", k.plain("C / n1 n0 n5", 0, 0), "z");
         told("nor 'T'", k.plain("C T / n1 n0 n5", 0, 0), "z");
         told("in a build", k.kept("; D d7 / n1 n0"), "z");
+        k = new Desk();
+        k.function(1, 1, 0, times(6, "+ n0") + "i p0 c1 - p0 n1 _ / n1 n0");
+        k.function(2, 1, 1, times(6, "+ n0") + "i p0 c2 - p0 n1 _ / n1 n0");
+        k.function(3, 0, 0, "c2 n28 _");
+        k.function(4, 0, 0, "K c1 n18 _");
+        k.function(5, 0, 0, "L n1 D n1");
+        k.function(6, 1, 0, "; D o n1 " + times(5, "+ n0") + "i p0 c6 - p0 n1 _ n7");
+        due("nothing of it is left behind", k.x.build(6), '-');
+        for (int turn = 0; turn < 60; turn++) {
+            due("a run", k.x.plain(1, 18, 0), 'z');
+            due("a build", k.x.build(3), 'z');
+            due("'K' in a build", k.x.build(4), 'z');
+            due("parts that are put off", k.x.plain(5, 0, 0), 'l');
+        }
+        due("as ahead", k.x.run(19, 0), 'v');
+        due("as ahead", k.x.outputs(), 20);
+        due("as ahead", k.x.plain(6, 19, 0), 'v');
+        due("as ahead", k.x.outputs(), 20);
+        due("one more", k.x.plain(6, 20, 0), 'l');
+        k.function(2, 1, 1, times(6, "+ n0") + "i p0 c2 - p0 n1 _ n7");
+        due("as ahead", k.x.build(3), '-');
+        k.function(1, 1, 0, times(6, "+ n0") + "i p0 c1 - p0 n1 _ n7");
+        due("as ahead", k.x.build(4), '-');
     }
 
     // ---- Known
@@ -1584,6 +1680,11 @@ public final class EdgeRuns {
             due("looked", k.x.looked(), holds ? early ? 19 : 30 : !early ? 30 : keptFirst ? 19 : 20);
             due("made", k.x.made(), holds ? 30 : early ? keptFirst ? 11 : 30 : keptFirst ? 11 : 19);
         }
+        // each of them as deep in nodes as may be
+        k = new Desk();
+        k.function(1, 1, 1, "i p0 " + times(6, "T") + "c1 - p0 n1 _ n7");
+        due("30 functions", k.ends(0, times(8, "T") + "c1 n28 _"), '-');
+        due("made", k.x.made(), 30);
         // what is kept and not led to does not count
         k = descent();
         due("30 functions", k.ends(0, "c1 n28 _"), '-');
@@ -1796,6 +1897,14 @@ public final class EdgeRuns {
     }
 
     static void twentyLevels() {
+        Desk deep = new Desk();
+        for (int d = 1; d < 9; d++) {
+            deep.function(d, 0, 0, times(9, "T") + "c" + (d + 1) + " _ _");
+        }
+        deep.function(9, 0, 0, times(9, "T") + "c9 _ _");
+        told("10 nodes within one another in each call", deep.built(times(9, "K") + "c1 _ _", 0, 0), "!r");
+        told("trace", deep.trace(), "29 28 27 26 25 24 23 22 21 0");
+        due("worked", deep.x.worked(), 9 + 90);
         says("and they are at most 20 within one another, a kept one as deep as it went, otherwise it is the fault 'l'");
         for (int early = 0; early < 3; early++) {
             for (int more = 0; more < 2; more++) {
@@ -1842,6 +1951,30 @@ public final class EdgeRuns {
         told("in a constant, too", k.built("d6", 0, 0), "!l");
         told("found there", k.trace(), "16 0");
         due("the other one is kept", k.x.constants(), 1);
+        for (int from = 18; from <= 19; from++) {
+            Desk fresh = new Desk();
+            fresh.function(1, 1, 0, "i p0 c1 - p0 n1 _ n7");
+            told("from nothing", fresh.built("K c1 n" + from + " _", 0, 0), from == 18 ? "n7" : "!l");
+            due("looked", fresh.x.looked(), 20);
+            due("trace", fresh.x.trace(), from == 18 ? 0 : 20);
+            due("kept", fresh.x.calls(), from == 18 ? 19 : 0);
+            fresh.constant(1, times(9, "K") + "d2");
+            fresh.constant(2, times(from == 18 ? 8 : 9, "K") + "d3");
+            fresh.constant(3, "n7");
+            told("constants from nothing", fresh.built("d1", 0, 0), from == 18 ? "n7" : "!l");
+            due("looked", fresh.x.looked(), from == 18 ? 4 : 3);
+            told("the one too many is not begun", fresh.trace(), from == 18 ? "" : "12 11 0");
+        }
+        Desk shallow = new Desk();
+        shallow.constant(5, times(9, "K") + "d6");
+        shallow.constant(6, times(8, "K") + "d7");
+        shallow.constant(7, "n7");
+        shallow.constant(8, "K n8");
+        shallow.constant(9, times(9, "K") + "c1 _ _");
+        shallow.function(1, 0, 0, times(7, "K") + "d8");
+        told("a shallow one behind a deep one is shallow", shallow.built("; d5 d8", 0, 0), "n8");
+        told("and may be needed", shallow.built("d9", 0, 0), "n8");
+        told("levels are those of the deepest one", shallow.built("K ; d8 ; d9 d8", 0, 0), "!l");
         told("behind one another they are not within", k.built("; d5 ; d5 ; K c1 n18 _ K K c1 n17 _", 0, 0), "n7");
         told("made functions are no levels", k.built("i p0 c0 - p0 n1 _ d5", 19, 0), "n7");
     }
@@ -1911,7 +2044,52 @@ public final class EdgeRuns {
             }
         }
         says("an edit of a declaration drops all that looked at it");
+        for (int d = 0; d < 10; d++) {
+            int other = (d + 1) % 10;
+            Desk k = new Desk();
+            k.constant(d, "n7");
+            k.function(other, 0, 0, "d" + d);
+            due("build", k.x.build(other), '-');
+            due("constants", k.x.constants(), 1);
+            due("calls", k.x.calls(), 0);
+            due("the constant and the function", k.x.remove(d), 2);
+            due("none is left", k.x.constants() + k.x.made(), 0);
+            k.function(d, 1, 0, "p0");
+            k.function(other, 0, 0, "+ K c" + d + " n1 _ K c" + d + " n2 _");
+            due("build", k.x.build(other), '-');
+            due("constants", k.x.constants(), 0);
+            due("calls", k.x.calls(), 2);
+            due("the calls and the function", k.x.remove(d), 3);
+            due("none is left", k.x.calls() + k.x.made(), 0);
+            k.function(d, 1, 1, "p0");
+            k.function(other, 0, 0, "; c" + d + " n1 _ ; c" + d + " n2 _ c" + d + " n3 _");
+            due("build", k.x.build(other), '-');
+            due("made", k.x.made(), 4);
+            due("the function alone", k.x.remove(other), 1);
+            k.function(other, 0, 0, "; c" + d + " n3 _ ; c" + d + " n2 _ c" + d + " n1 _");
+            due("build", k.x.build(other), '-');
+            due("the others were kept", k.x.looked(), 1);
+            due("all of them", k.x.remove(d), 4);
+        }
         Desk k = new Desk();
+        k.function(1, 0, 0, "n1");
+        k.function(2, 0, 0, "n1");
+        due("63 calls of 1, and one of 2", k.ends(0, manyAndLast("c1 _ _", "c2 _ _", 6)), '-');
+        due("with 63 of ';'", k.x.nodesLeft(), 127);
+        due("an edit of 2 drops 0, too", k.function(2, 0, 0, "n1"), 2);
+        due("calls", k.x.made(), 1);
+        k = new Desk();
+        k.function(1, 1, 0, "n7");
+        k.constant(5, "c1 r n3 _");
+        k.constant(6, "; d5 c1 r n3 _");
+        due("a call that its argument leaves", k.ends(0, "; d6 n1"), '-');
+        due("is none", k.x.calls(), 0);
+        due("6 looked at 5", k.constant(5, "c1 r n3 _"), 3);
+        due("build", k.x.build(0), '-');
+        due("but it looked at the function", k.function(1, 0, 0, "n8"), 3);
+        due("build", k.x.build(0), '-');
+        due("which has no argument now", k.x.numberOf(5), 8);
+        k = new Desk();
         k.constant(5, "n1");
         k.constant(6, "n2");
         k.function(4, 1, 0, "i p0 d5 d6");
@@ -1936,6 +2114,12 @@ public final class EdgeRuns {
         due("build", k.x.build(3), '-');
         due("both", k.function(2, 1, 0, "i p0 c3 - p0 n1 _ n7"), 2);
         due("the constant is kept", k.x.constants(), 1);
+    }
+
+    /** Two to so many parts behind one another, all the same but for the last one. */
+    static String manyAndLast(String part, String last, int doublings) {
+        return doublings == 0 ? last
+                : "; " + manyAndLast(part, part, doublings - 1) + " " + manyAndLast(part, last, doublings - 1);
     }
 
     static void faultsDrop() {
@@ -1983,6 +2167,27 @@ public final class EdgeRuns {
             due("the other call is kept", k.x.calls(), 1);
             due("and the function that was made", k.x.made(), 1);
             due("looked", k.x.looked(), early == 1 ? 4 : 7);
+        }
+        says("and nothing else");
+        for (int d = 0; d < 10; d++) {
+            int other = (d + 1) % 10;
+            int third = (d + 2) % 10;
+            k = new Desk();
+            k.constant(d, "n7");
+            k.function(other, 1, 0, "p0");
+            k.function(third, 0, 0, "; d" + d + " ; c" + other + " n1 _ K c" + other + " n2 _");
+            due("build", k.x.build(third), '-');
+            int faulty = (d + 3) % 10;
+            k.function(faulty, 0, 0, "; d" + d + " / n1 n0");
+            due("dropped", k.function(other, 1, 0, "p0"), 3);
+            due("and built again", k.x.build(third), '-');
+            due("a fault", k.x.build(faulty), 'z');
+            due("made functions", k.x.made(), 2);
+            due("the constant", k.x.constants(), 1);
+            due("the call", k.x.calls(), 1);
+            due("run", k.x.run(0, 0), 'v');
+            due("build", k.x.build(third), '-');
+            due("nothing was dropped", k.x.looked(), 0);
         }
         says("and made functions that lead to one of these");
         k = new Desk();
@@ -2107,6 +2312,10 @@ public final class EdgeRuns {
         told("an edit counts at once", k.plain("d5", 0, 0), "n3");
         k.constant(5, "n9");
         told("an edit counts at once", k.plain("d5", 0, 0), "n9");
+        k.function(2, 1, 1, "+ p0 n1");
+        told("a run by what was made", k.built("c2 n2 _", 0, 0), "n3");
+        told("changes nothing for a plain one", k.plain("K + p0 n1", 7, 0), "w8");
+        told("nor in a call", k.plain("c2 p0 _", 7, 0), "w8");
         k.function(0, 1, 0, "; o p0 / n1 n0");
         due("an unbuilt one with a fault", k.x.build(0), 'z');
         due("is run", k.x.plain(0, 4, 0), 'z');
@@ -2788,6 +2997,28 @@ public final class EdgeRuns {
     }
 
     static void whole() {
+        says("Promise 26: Checks whether a build from nothing of the function that was built last without a fault ends without "
+                + "one, too");
+        for (int d = 0; d < 10; d++) {
+            Desk k = new Desk();
+            int other = (d + 1) % 10;
+            for (int turn = 0; turn < 3; turn++) {
+                k.constant(d, "n" + turn);
+                k.function(other, 1, 0, "+ d" + d + " p0");
+                due("build", k.x.build(other), '-');
+                due("a constant", k.x.isWhole() ? 1 : 0, 1);
+                due("run", k.x.run(5, 0), 'v');
+                due("with this value", k.x.result(), 5 + turn);
+            }
+            for (int turn = 0; turn < 3; turn++) {
+                k.function(d, 1, 1, "+ p0 n" + turn);
+                k.function(other, 0, 0, "; K c" + d + " n1 _ c" + d + " n2 _");
+                due("build", k.x.build(other), '-');
+                due("a call and a function", k.x.isWhole() ? 1 : 0, 1);
+                due("run", k.x.run(0, 0), 'v');
+                due("with this value", k.x.result(), 2 + turn);
+            }
+        }
         says("Promise 26: true if nothing was built, or something of it was dropped since");
         Desk k = new Desk();
         due("nothing was built", k.x.isWhole() ? 1 : 0, 1);
