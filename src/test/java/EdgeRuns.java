@@ -537,6 +537,10 @@ public final class EdgeRuns {
         variables();
         declarationNumbers();
         arguments();
+        argumentsThatAreLeft();
+        noSuchParts();
+        numbersOfNoMeaning();
+        noSuchKind();
         kindsOfNodes();
         partsInOrder();
     }
@@ -719,6 +723,9 @@ public final class EdgeRuns {
                 }
             }
         }
+    }
+
+    static void argumentsThatAreLeft() {
         for (String[] row : new String[][] {{"c1 _ p0", "2"}, {"c1 p0 _", "2"}, {"c1 p0 p0", "3"}, {"c1 _ _", "1"}, {"c1 + p0 p0 _", "4"},
             {"c1 _ + p0 p0", "4"}, {"c1 n1 p0", "2"}, {"c1 p0 n1", "2"}}) {
             Desk k = new Desk();
@@ -726,6 +733,9 @@ public final class EdgeRuns {
             due(row[0], k.ends(1, row[0]), '-');
             due(row[0] + " leaves", k.x.nodesLeft(), Integer.parseInt(row[1]));
         }
+    }
+
+    static void noSuchParts() {
         says("a part is no such node, where -1 is told for the arguments of a call that are not there");
         ComptimeBench x = new ComptimeBench();
         x.node('n', 0, 0, 0);
@@ -749,8 +759,12 @@ public final class EdgeRuns {
         due("nothing was added", x.node('c', 0, -1, -1), 1);
         due("a part may be the latest node", x.node('c', 0, 1, 1), 2);
         due("both parts", x.node('+', 2, 2, 0), 3);
+    }
+
+    static void numbersOfNoMeaning() {
         says("numbers that a kind does not have are of no meaning");
-        int node = 4;
+        ComptimeBench x = new ComptimeBench();
+        int node = x.node('n', 0, 0, 0) + 1;
         for (char kind : "nepvdF".toCharArray()) {
             due("leaf " + kind, x.node(kind, 0, -7, 999), node++);
         }
@@ -761,9 +775,6 @@ public final class EdgeRuns {
         for (char kind : "+-*/%<=PQkC;Lts".toCharArray()) {
             due("with parts a and b " + kind, x.node(kind, 0, 0, kind == '+' ? 999 : -7), node++);
         }
-    }
-
-    static void kindsOfNodes() {
         for (char kind : "nepvdFyzxKTrDEo+-*/%<=PQkC;Lts".toCharArray()) {
             // a division by 0 stands where the kind has no number
             ComptimeBench with = new ComptimeBench();
@@ -779,6 +790,9 @@ public final class EdgeRuns {
             due("build with numbers that " + kind + " does not have", with.build(1), end);
             due("plain with them", with.plain(1, 0, 0), end == '-' ? 'v' : 't');
         }
+    }
+
+    static void noSuchKind() {
         says("there is no such kind");
         ComptimeBench x = new ComptimeBench();
         x.node('n', 0, 0, 0);
@@ -792,7 +806,12 @@ public final class EdgeRuns {
             }
         }
         due("all kinds", node, 33);
+    }
+
+    static void kindsOfNodes() {
         says("'t' the type with as many bits as the part b gives, signed if a is 1, and not if it is 0");
+        ComptimeBench x = new ComptimeBench();
+        x.node('n', 0, 0, 0);
         refused("t 2", ILLEGAL, () -> x.node('t', 2, 0, 0));
         refused("t -1", ILLEGAL, () -> x.node('t', -1, 0, 0));
         comes("t+ n8", "t8");
@@ -879,6 +898,8 @@ public final class EdgeRuns {
         comparisons();
         conditions();
         conversions();
+        fromFloats();
+        toFloats();
         typesOfBits();
         measures();
     }
@@ -1187,6 +1208,9 @@ public final class EdgeRuns {
         comes("k N4294967295 t32", "w4294967295");
         comes("k N4294967296 t32", "c");
         comes("k N1099511627776 t32", "c");
+    }
+
+    static void fromFloats() {
         says("a float one if it is just a whole number, cut by nothing, otherwise 'c'");
         comes("k f255 t8", "w255");
         comes("k f256 t8", "c");
@@ -1211,6 +1235,9 @@ public final class EdgeRuns {
         comes("k f4294967040 t32", "w4294967040");
         comes("k f-2147483648 t-32", "w-2147483648");
         comes("k f2147483648 t-32", "c");
+    }
+
+    static void toFloats() {
         says("a whole or free number becomes a float as Java's cast does, or 'c' if this is not the same number");
         long[] same = {0, 1, -1, 16777215, 16777216, -16777216, 16777218, 33554432, 4294967040L, 1099511627776L, -1099511627776L,
             1099511562240L};
@@ -1297,8 +1324,10 @@ public final class EdgeRuns {
         ownCalls();
         putOff();
         within();
+        withinForEver();
         noSuch();
         faultEnds();
+        manyFaults();
     }
 
     static void ownCalls() {
@@ -1409,6 +1438,9 @@ public final class EdgeRuns {
             k.function(7, 1, 0, "c5 c5 c5 p0 _ _ _");
             told(deep + " with calls in arguments", k.plain(times(9, "K") + "c6 _ _", 0, 0), holds ? "n7" : "l");
         }
+    }
+
+    static void withinForEver() {
         Desk k = new Desk();
         k.function(1, 0, 0, "c1 _ _");
         due("for ever", k.x.plain(1, 0, 0), 'l');
@@ -1475,7 +1507,10 @@ public final class EdgeRuns {
         told("'C' does not catch it", k.plain("C / n1 n0 n5", 0, 0), "z");
         told("nor 'T'", k.plain("C T / n1 n0 n5", 0, 0), "z");
         told("in a build", k.kept("; D d7 / n1 n0"), "z");
-        k = new Desk();
+    }
+
+    static void manyFaults() {
+        Desk k = new Desk();
         k.function(1, 1, 0, times(6, "+ n0") + "i p0 c1 - p0 n1 _ / n1 n0");
         k.function(2, 1, 1, times(6, "+ n0") + "i p0 c2 - p0 n1 _ / n1 n0");
         k.function(3, 0, 0, "c2 n28 _");
@@ -1508,11 +1543,19 @@ public final class EdgeRuns {
         faultsOfBuild();
         callsLookedAt();
         thirtyMade();
+        keptOnesIncluded();
+        thirtyOfOthers();
         kAsInRun();
         onceForEachRow();
         neededWhileWorkedOut();
         fiveHundredNodes();
+        asOftenAsNeeded();
+        nodesOfSeveralLevels();
+        deepInNodes();
         twentyLevels();
+        twentyCalls();
+        twentyFromNothing();
+        shallowBehindDeep();
     }
 
     /** An argument that must be known tells what is known: '-' or 'u'; and how many nodes are left of it. */
@@ -1664,12 +1707,15 @@ public final class EdgeRuns {
         due("looked", k.x.looked(), 30);
         due("trace", k.x.trace(), 30);
         told("as they call", k.trace(), times(29, "1") + "0");
-        // kept ones count with all to which they lead, whether they are reached first or last
+    }
+
+    /** Kept ones count with all to which they lead, whether they are reached first or last. */
+    static void keptOnesIncluded() {
         for (int turn = 0; turn < 8; turn++) {
             boolean holds = turn % 2 == 0;
             boolean keptFirst = turn % 4 < 2;
             boolean early = turn < 4;
-            k = descent();
+            Desk k = descent();
             k.function(2, 1, 1, "i p0 c2 - p0 n1 _ n7");
             k.function(3, 0, 0, "c1 n9 _");
             if (early) {
@@ -1680,8 +1726,11 @@ public final class EdgeRuns {
             due("looked", k.x.looked(), holds ? early ? 19 : 30 : !early ? 30 : keptFirst ? 19 : 20);
             due("made", k.x.made(), holds ? 30 : early ? keptFirst ? 11 : 30 : keptFirst ? 11 : 19);
         }
+    }
+
+    static void thirtyOfOthers() {
         // each of them as deep in nodes as may be
-        k = new Desk();
+        Desk k = new Desk();
         k.function(1, 1, 1, "i p0 " + times(6, "T") + "c1 - p0 n1 _ n7");
         due("30 functions", k.ends(0, times(8, "T") + "c1 n28 _"), '-');
         due("made", k.x.made(), 30);
@@ -1841,6 +1890,9 @@ public final class EdgeRuns {
             told("trace", k.trace(), nodes < 500 ? "" : holds ? "0" : "21 0");
             told("in a run there may be more", k.plain("c1 _ _", 0, 0), "n" + rounds(nodes));
         }
+    }
+
+    static void asOftenAsNeeded() {
         for (int early = 0; early < 2; early++) {
             for (int more = 0; more < 2; more++) {
                 boolean holds = more == 0;
@@ -1872,7 +1924,9 @@ public final class EdgeRuns {
                 told("trace", k.trace(), holds ? "" : "0");
             }
         }
-        // what comes of several levels counts at each of them
+    }
+
+    static void nodesOfSeveralLevels() {
         for (int early = 0; early < 2; early++) {
             Desk k = new Desk();
             k.constant(4, nodes(120));
@@ -1896,7 +1950,7 @@ public final class EdgeRuns {
         told("not reached", k.built("K i n1 n1 ; d5 d5", 0, 0), "n1");
     }
 
-    static void twentyLevels() {
+    static void deepInNodes() {
         Desk deep = new Desk();
         for (int d = 1; d < 9; d++) {
             deep.function(d, 0, 0, times(9, "T") + "c" + (d + 1) + " _ _");
@@ -1905,6 +1959,9 @@ public final class EdgeRuns {
         told("10 nodes within one another in each call", deep.built(times(9, "K") + "c1 _ _", 0, 0), "!r");
         told("trace", deep.trace(), "29 28 27 26 25 24 23 22 21 0");
         due("worked", deep.x.worked(), 9 + 90);
+    }
+
+    static void twentyLevels() {
         says("and they are at most 20 within one another, a kept one as deep as it went, otherwise it is the fault 'l'");
         for (int early = 0; early < 3; early++) {
             for (int more = 0; more < 2; more++) {
@@ -1935,6 +1992,9 @@ public final class EdgeRuns {
                 due("calls", k.x.calls(), holds ? 3 : early == 0 ? 0 : early);
             }
         }
+    }
+
+    static void twentyCalls() {
         Desk k = new Desk();
         k.function(1, 1, 0, "i p0 c1 - p0 n1 _ n7");
         told("'K' and 19 calls", k.built("K c1 n18 _", 0, 0), "n7");
@@ -1951,6 +2011,11 @@ public final class EdgeRuns {
         told("in a constant, too", k.built("d6", 0, 0), "!l");
         told("found there", k.trace(), "16 0");
         due("the other one is kept", k.x.constants(), 1);
+        told("behind one another they are not within", k.built("; d5 ; d5 ; K c1 n18 _ K K c1 n17 _", 0, 0), "n7");
+        told("made functions are no levels", k.built("i p0 c0 - p0 n1 _ d5", 19, 0), "n7");
+    }
+
+    static void twentyFromNothing() {
         for (int from = 18; from <= 19; from++) {
             Desk fresh = new Desk();
             fresh.function(1, 1, 0, "i p0 c1 - p0 n1 _ n7");
@@ -1965,6 +2030,9 @@ public final class EdgeRuns {
             due("looked", fresh.x.looked(), from == 18 ? 4 : 3);
             told("the one too many is not begun", fresh.trace(), from == 18 ? "" : "12 11 0");
         }
+    }
+
+    static void shallowBehindDeep() {
         Desk shallow = new Desk();
         shallow.constant(5, times(9, "K") + "d6");
         shallow.constant(6, times(8, "K") + "d7");
@@ -1975,8 +2043,6 @@ public final class EdgeRuns {
         told("a shallow one behind a deep one is shallow", shallow.built("; d5 d8", 0, 0), "n8");
         told("and may be needed", shallow.built("d9", 0, 0), "n8");
         told("levels are those of the deepest one", shallow.built("K ; d8 ; d9 d8", 0, 0), "!l");
-        told("behind one another they are not within", k.built("; d5 ; d5 ; K c1 n18 _ K K c1 n17 _", 0, 0), "n7");
-        told("made functions are no levels", k.built("i p0 c0 - p0 n1 _ d5", 19, 0), "n7");
     }
 
     // ---- Builds
@@ -1984,7 +2050,13 @@ public final class EdgeRuns {
     static void builds() {
         makesAll();
         editsDrop();
+        dropsByEachNumber();
+        dropsWhatLooked();
+        dropsNoMore();
         faultsDrop();
+        faultsDropThings();
+        faultsDropNothingElse();
+        faultsDropWhatLeads();
         traceIsTheWay();
     }
 
@@ -2043,6 +2115,9 @@ public final class EdgeRuns {
                 due("left", k.x.made() + k.x.constants() + k.x.calls(), 8 - drops[d]);
             }
         }
+    }
+
+    static void dropsByEachNumber() {
         says("an edit of a declaration drops all that looked at it");
         for (int d = 0; d < 10; d++) {
             int other = (d + 1) % 10;
@@ -2071,6 +2146,9 @@ public final class EdgeRuns {
             due("the others were kept", k.x.looked(), 1);
             due("all of them", k.x.remove(d), 4);
         }
+    }
+
+    static void dropsWhatLooked() {
         Desk k = new Desk();
         k.function(1, 0, 0, "n1");
         k.function(2, 0, 0, "n1");
@@ -2089,7 +2167,10 @@ public final class EdgeRuns {
         due("but it looked at the function", k.function(1, 0, 0, "n8"), 3);
         due("build", k.x.build(0), '-');
         due("which has no argument now", k.x.numberOf(5), 8);
-        k = new Desk();
+    }
+
+    static void dropsNoMore() {
+        Desk k = new Desk();
         k.constant(5, "n1");
         k.constant(6, "n2");
         k.function(4, 1, 0, "i p0 d5 d6");
@@ -2150,9 +2231,11 @@ public final class EdgeRuns {
         due("without the fault", k.x.build(0), '-');
         due("0, 1, 2, 3 and 8", k.x.looked(), 5);
         due("made", k.x.made(), 7);
-        // in a constant or a call
+    }
+
+    static void faultsDropThings() {
         for (int early = 0; early < 2; early++) {
-            k = new Desk();
+            Desk k = new Desk();
             k.constant(4, "n1");
             k.constant(5, "; d4 d6");
             k.constant(6, "; d4 c1 n0 _");
@@ -2168,11 +2251,14 @@ public final class EdgeRuns {
             due("and the function that was made", k.x.made(), 1);
             due("looked", k.x.looked(), early == 1 ? 4 : 7);
         }
+    }
+
+    static void faultsDropNothingElse() {
         says("and nothing else");
         for (int d = 0; d < 10; d++) {
             int other = (d + 1) % 10;
             int third = (d + 2) % 10;
-            k = new Desk();
+            Desk k = new Desk();
             k.constant(d, "n7");
             k.function(other, 1, 0, "p0");
             k.function(third, 0, 0, "; d" + d + " ; c" + other + " n1 _ K c" + other + " n2 _");
@@ -2189,8 +2275,11 @@ public final class EdgeRuns {
             due("build", k.x.build(third), '-');
             due("nothing was dropped", k.x.looked(), 0);
         }
+    }
+
+    static void faultsDropWhatLeads() {
         says("and made functions that lead to one of these");
-        k = new Desk();
+        Desk k = new Desk();
         k.function(1, 1, 1, "i p0 ; c3 _ _ ; c1 - p0 n1 _ n1 ; c3 _ _ d9");
         k.function(3, 0, 0, "; c4 _ _ n1");
         k.function(4, 0, 0, "n1");
@@ -2505,15 +2594,20 @@ public final class EdgeRuns {
     static void promises() {
         newObject();
         declares();
+        declaresFunctions();
         removes();
         buildsAFunction();
         traces();
         counts();
+        looked();
+        worked();
         nodesThatAreLeft();
         constantsThatAreKept();
         runsWhatWasBuilt();
+        runsWhatWasBuiltLast();
         runsPlainly();
         results();
+        outputs();
         figures();
         whole();
     }
@@ -2566,6 +2660,11 @@ public final class EdgeRuns {
         due("a function on what it calls", k.x.function(1, 0, 0, node), 2);
         due("the constant alone", k.x.function(3, 0, 0, node), 1);
         due("nothing is left", k.x.made() + k.x.constants() + k.x.calls(), 0);
+    }
+
+    static void declaresFunctions() {
+        Desk k = new Desk();
+        int node = k.tree("n7");
         says("Promise 4: or one that is told is out of range, or a parameter is known that there is not");
         for (int parameters = -1; parameters <= 3; parameters++) {
             for (int known = -1; known <= 4; known++) {
@@ -2710,7 +2809,12 @@ public final class EdgeRuns {
         due("are two", k.x.calls(), 2);
         due("an edit of both functions", k.function(1, 1, 0, "p0"), 4);
         due("drops them", k.x.calls(), 0);
+    }
+
+    static void looked() {
         says("Promise 12: Returns how many things the last build began to make or to work out.");
+        Desk k = new Desk();
+        k.function(1, 1, 0, "p0");
         k.constant(5, "n1");
         due("a function, two calls, a constant", k.ends(0, "; d5 K ; d5 + c1 n1 _ c1 c1 n2 _ _"), '-');
         due("looked", k.x.looked(), 4);
@@ -2718,9 +2822,12 @@ public final class EdgeRuns {
         due("looked", k.x.looked(), 3);
         due("nothing", k.x.build(5), 'd');
         due("looked", k.x.looked(), 0);
+    }
+
+    static void worked() {
         says("Promise 13: Returns how many nodes were worked out in the last build for 'K', constants and calls, kept ones "
                 + "left out.");
-        k = new Desk();
+        Desk k = new Desk();
         k.constant(5, "+ n1 n2");
         k.function(1, 1, 0, "+ p0 d5");
         due("build", k.ends(0, "; K ; d5 c1 n1 _ ; + n1 n2 ; d5 K n1"), '-');
@@ -2854,6 +2961,11 @@ public final class EdgeRuns {
             due("build", k.x.build(0), '-');
             due("run", k.x.run(0, 0), 'v');
         }
+    }
+
+    static void runsWhatWasBuiltLast() {
+        Desk k = new Desk();
+        due("build", k.ends(0, "n1"), '-');
         k.function(3, 0, 0, "n3");
         due("another build", k.x.build(3), '-');
         due("run", k.x.run(0, 0), 'v');
@@ -2928,7 +3040,11 @@ public final class EdgeRuns {
         told("nothing is a value", k.plain("v0", 0, 0), "-0");
         told("a fault", k.plain("/ n1 n0", 0, 0), "z");
         refuseResult(k, "'z'");
+    }
+
+    static void outputs() {
         says("Promise 21: Returns how many values the last run put out.");
+        Desk k = new Desk();
         due("none", new Desk().x.outputs(), 0);
         told("two", k.plain("; o n1 o n2", 0, 0), "-0");
         due("outputs", k.x.outputs(), 2);
