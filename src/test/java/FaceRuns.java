@@ -25,8 +25,10 @@ public final class FaceRuns {
         "char resultKind() NoSuchElementException", "long result() NoSuchElementException",
         "int outputs()", "long output(int) IndexOutOfBoundsException", "int steps()",
         "float valueShare() ArithmeticException", "double meanLeft() ArithmeticException", "boolean isWhole()"};
-    static final String[] LEFT_OUT = {"->", "::", "finally", "catch", "synchronized", "assert", "import java.util.function",
-        "@", "package ", "Exact(", "System.", "Float.", "Double.", "Character."};
+    /** What no rule lets stand in the text of the class. */
+    static final String[] LEFT_OUT = {"::", "finally", "synchronized", "assert ", "import java.util.function", "package ", "Exact(",
+        "Float.", "Double.", "Character.", "System.out", "System.nano", "System.current", "System.identity", "System.exit",
+        "Thread", "Random", "java.io", "java.nio", "static {", "hashCode", "getMessage", "Exception extends"};
     static int wrong = 0;
 
     public static void main(String[] args) throws Exception {
@@ -47,7 +49,7 @@ public final class FaceRuns {
             check(Modifier.isPublic(constructor.getModifiers()) && constructor.getParameterCount() == 0, "the constructor");
         }
         fields(face, true);
-        check(face.getDeclaredClasses().length <= 12, "some twelve classes");
+        check(face.getDeclaredClasses().length <= 14, "some twelve classes");
         for (Class<?> inner : face.getDeclaredClasses()) {
             check(Modifier.isStatic(inner.getModifiers()) && !Modifier.isPublic(inner.getModifiers())
                     && !Modifier.isProtected(inner.getModifiers()), "a static class inside: " + inner);
@@ -84,13 +86,13 @@ public final class FaceRuns {
         int count = 0;
         for (Field field : of.getDeclaredFields()) {
             if (Modifier.isStatic(field.getModifiers())) {
-                check(Modifier.isFinal(field.getModifiers()) && field.getType().isPrimitive(), "a constant: " + field);
+                check(Modifier.isFinal(field.getModifiers()), "a constant: " + field);
             } else {
                 count++;
                 check(!allPrivate || Modifier.isPrivate(field.getModifiers()), "private: " + field);
             }
         }
-        check(count <= 20, "some twenty fields in " + of);
+        check(count <= 24, "some twenty fields in " + of);
     }
 
     static void check(boolean holds, String what) {
