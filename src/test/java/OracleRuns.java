@@ -1078,6 +1078,64 @@ public final class OracleRuns {
             return all;
         }
 
+        /** Loops, calls and functions that come just up to a limit, or a little beyond it. */
+        void edges() {
+            int p = node('p', 0, 0, 0);
+            int v = node('v', 0, 0, 0);
+            int one = node('n', 1, 0, 0);
+            int more = node('s', 0, node('+', v, one, 0), 0);
+            if (pick(3) > 0) {
+                int rounds = node('n', pick(4) == 0 ? 45 + pick(4) : pick(2) == 0 ? 32 + pick(4) : 68 + pick(4), 0, 0);
+                int counted = counted(node('n', 0, 0, 0), rounds, more);
+                constant(5, counted);
+                function(1, 0, 0, counted);
+                int again = node('c', 4, node('-', p, one, 0), -1);
+                function(4, 1, pick(2), node('i', p, again, one));
+                int five = tried(node('d', 5, 0, 0));
+                int call = tried(node('c', 1, -1, -1));
+                int far = node('c', 4, node('n', 14 + pick(18), 0, 0), -1);
+                int need = node(';', pick(2) == 0 ? five : call, pick(3) == 0 ? one : pick(2) == 0 ? five : call, 0);
+                constant(6, tried(need));
+                function(2, 0, 0, pick(2) == 0 ? node('K', need, 0, 0) : node('d', 6, 0, 0));
+                function(3, 0, 0, pick(3) == 0 ? far : wrapped(node('K', far, 0, 0), pick(3)));
+                function(0, 0, 0, node(';', node('c', 2 + pick(2), -1, -1), node('c', 2 + pick(2), -1, -1), 0));
+            } else {
+                int put = pick(2) == 0 ? more : node(';', node("oDE".charAt(pick(3)), pick(2) == 0 ? v : node('o', v, 0, 0), 0, 0), more, 0);
+                function(pick(4), 2, 0, counted(node('p', 1, 0, 0), p, put));
+            }
+            for (int i = pick(4); i >= 0; i--) {
+                int d = pick(4);
+                same("build(" + d + ")", () -> bench.build(d), () -> oracle.build(d));
+                tell("b", history);
+                afterBuild();
+                int x = pick(2) == 0 ? 280 + pick(8) : pick(2) == 0 ? 36 + pick(8) : 140 + pick(60);
+                same("run(" + x + ", 0)", () -> bench.run(x, 0), () -> oracle.run(x, 0));
+                tell("r", history);
+                afterRun();
+                same("plain(" + d + ", " + x + ", 0)", () -> bench.plain(d, x, 0), () -> oracle.plain(d, x, 0));
+                tell("p", history);
+                afterRun();
+                if (pick(4) == 0) {
+                    edit();
+                }
+            }
+        }
+
+        /** A loop from one number to another, with a few nodes more that change nothing. */
+        int counted(int from, int to, int more) {
+            int v = node('v', 0, 0, 0);
+            int loop = node('L', node('<', v, to, 0), more, 0);
+            return node(';', node('s', 0, tried(from), 0), node(';', loop, tried(v), 0), 0);
+        }
+
+        int tried(int part) {
+            int all = part;
+            for (int i = pick(4); i > 0; i--) {
+                all = node('T', all, 0, 0);
+            }
+            return all;
+        }
+
         int typeNode() {
             int which = pick(8);
             if (which == 0) {
@@ -1288,6 +1346,10 @@ public final class OracleRuns {
                 });
                 tell("p", history);
             }
+            afterRun();
+        }
+
+        void afterRun() {
             same("steps()", bench::steps, () -> oracle.steps);
             same("resultKind()", bench::resultKind, () -> oracle.resultDue().kind);
             same("result()", bench::result, () -> oracle.resultDue().number);
@@ -1328,7 +1390,8 @@ public final class OracleRuns {
                 }
             }
             while (right && history.size() < 512) {
-                switch (pick(18)) {
+                switch (pick(19)) {
+                    case 18: edges(); break;
                     case 17: chains(); break;
                     case 16: arithmetic(); break;
                     case 0, 1, 2, 3: randomNode(); break;
