@@ -1665,6 +1665,8 @@ public final class EdgeRuns {
         k.function(2, 1, 0, "n1");
         due("a call in an argument is looked at, too", k.ends(1, "c1 c2 p0 _ _"), 'u');
         due("and made", k.x.made(), 2);
+        due("what is not there, and a parameter that is not", k.ends(0, "; c1 _ _ ; c1 p0 _ c1 K v0 _"), '-');
+        due("are one row of arguments, beside that of n1", k.x.made(), 4);
         says("unless it was made, or is being made");
         k = new Desk();
         k.function(1, 1, 1, "n5");
