@@ -2159,6 +2159,18 @@ public final class EdgeRuns {
         due("an edit of 2 drops 0, too", k.function(2, 0, 0, "n1"), 2);
         due("calls", k.x.made(), 1);
         k = new Desk();
+        k.function(1, 1, 1, "n1");
+        k.function(2, 0, 0, "n1");
+        String[] calls = new String[31];
+        for (int i = 0; i < 29; i++) {
+            calls[i] = "c1 n" + Math.max(i, 1) + " _";
+        }
+        calls[29] = "c0 _ _";
+        calls[30] = "c2 _ _";
+        due("calls of 30, itself included", k.ends(0, behind(calls, 0, 31)), '-');
+        due("made", k.x.made(), 30);
+        due("an edit of the last one drops it, too", k.function(2, 0, 0, "n1"), 2);
+        k = new Desk();
         k.function(1, 1, 0, "n7");
         k.constant(5, "c1 r n3 _");
         k.constant(6, "; d5 c1 r n3 _");
@@ -2197,6 +2209,12 @@ public final class EdgeRuns {
         due("build", k.x.build(3), '-');
         due("both", k.function(2, 1, 0, "i p0 c3 - p0 n1 _ n7"), 2);
         due("the constant is kept", k.x.constants(), 1);
+    }
+
+    /** Parts from one on, up to another, behind one another. */
+    static String behind(String[] parts, int from, int to) {
+        int mid = (from + to) / 2;
+        return to - from == 1 ? parts[from] : "; " + behind(parts, from, mid) + " " + behind(parts, mid, to);
     }
 
     /** Two to so many parts behind one another, all the same but for the last one. */
