@@ -7,7 +7,7 @@ import java.util.NoSuchElementException;
  * Each sentence of ../shared/DOC.md that names an edge (too small, too large, empty, full, a refused call), told by its
  * own words: the last case that is allowed, and the first one that is not.
  */
-public final class EdgeRuns {
+public class EdgeRuns {
     static int wrong = 0;
     static int sentences = 0;
     static String sentence = "";
